@@ -1313,7 +1313,8 @@ public final class MergeDesk {
     /** What a name stands for while merging: the open loops' records, and the variables. */
     private static final class Scope {
         private static final int LOOP_LIMIT = 6;
-        private static final int VARIABLE_LIMIT = 120;
+        /** The shortest tag that sets one has nine bytes. */
+        private static final int VARIABLE_LIMIT = Program.TEMPLATE_LIMIT / 9 + 1;
         private static final int NO_COLUMN = -1;
 
         private final Table[] tables;

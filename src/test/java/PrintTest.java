@@ -8,6 +8,7 @@ public final class PrintTest {
         variables();
         loops();
         scopes();
+        largest();
         output();
         Check.end();
     }
@@ -114,6 +115,31 @@ public final class PrintTest {
         due("{each item no=1}{each line}{no}{name}{end}{end}", "2Pen1Pen2Pen9Pen");
         due("{let item=5}{item}{count(item)}", "53");
         due("{let min=4}{min}{min(min,5)}", "44");
+    }
+
+    /** The templates that need most room for their code, their values and their variables. */
+    private static void largest() {
+        due("{1" + "+1".repeat(248) + "}", "249");
+        due("{1" + "--1".repeat(165) + "}", "166");
+        due("{1" + "--------1".repeat(55) + "}", "56");
+        due("{min(" + "9,".repeat(245) + "3)}", "3");
+        due("{min(" + "-9,".repeat(163) + "3)}", "-9");
+        String deep = "1+1*pct(100,".repeat(7) + "1+1*1" + ")".repeat(7);
+        due("{" + deep + "}", "9");
+        due("{each item no=" + deep + "-6}{price}{end}", "-5");
+        due("{each item}".repeat(6) + "{end}".repeat(6), "");
+        due("{each item no=1}".repeat(6) + "{name}" + "{end}".repeat(6), "Pen");
+        due("{each item no=1}{each item no=2}".repeat(3) + "{name}" + "{end}".repeat(6), "Ink");
+        StringBuilder lets = new StringBuilder();
+        for (char c = 'a'; c <= 'z'; c++) {
+            lets.append("{let ").append(c).append("=1}");
+        }
+        for (char c = 'a'; c <= 'y'; c++) {
+            lets.append("{let z").append(c).append("=2}");
+        }
+        Desk desk = new Desk();
+        Check.same("many variables", desk.merged(lets + "{zy+z+za}"), "5");
+        Check.same("51 of them", desk.about(4), 51);
     }
 
     private static void output() {

@@ -26,6 +26,7 @@ public final class TableTest {
         Check.same("six columns", desk.table("a b c d e f g"), 1);
         Check.same("a column with the table's name", desk.table("q q"), 2);
         Check.same("a name that is a table's", desk.table("a z"), Desk.ARGUMENT);
+        Check.same("the first table's", desk.table("abcdefgh z"), Desk.ARGUMENT);
         Check.same("a reserved word with a letter more", desk.table("ends iff"), 3);
         Check.same("four", desk.about(0), 4);
     }
