@@ -1,5 +1,7 @@
 import java.nio.charset.StandardCharsets;
-import java.util.function.Supplier;
+import java.util.ArrayList;
+import java.util.List;
+import java.util.function.Function;
 
 /** A MergeDesk that takes texts as Strings and tells each answer, or what was thrown, as a String. */
 final class Desk {
@@ -9,18 +11,75 @@ final class Desk {
     static final String UNSUPPORTED = "throws.UnsupportedOperationException";
     static final String NONE = "throws.NoSuchElementException";
 
-    private final MergeDesk desk = new MergeDesk();
+    /** Nothing is promised about an object after its 512th call, so a test that makes more is wrong. */
+    private static final int CALL_LIMIT = 512;
+    private static final int SHORT_OUTPUT = 40;
 
-    static String tell(Supplier<Object> call) {
+    private final MergeDesk desk = new MergeDesk();
+    /** The calls that may have changed the desk, to be made again on a copy. */
+    private final List<Function<MergeDesk, Object>> changes = new ArrayList<>();
+    private int calls = 0;
+
+    static Desk of(String heading, String... records) {
+        return new Desk().with(heading, records);
+    }
+
+    /** Adds a table with its records. */
+    Desk with(String heading, String... records) {
+        int table = Integer.parseInt(table(heading));
+        for (int i = 0; i < records.length; i++) {
+            Check.same("record " + records[i], record(table, records[i]), i);
+        }
+        return this;
+    }
+
+    /** The tables that most tests use. */
+    static Desk shop() {
+        return of("item no name price", "1;Pen;150", "2;Ink;2999", "3;;-5")
+                .with("line no qty", "2;3", "1;10", "2;1", "9;9")
+                .with("empty x");
+    }
+
+    private static String answer(MergeDesk desk, Function<MergeDesk, Object> call) {
         try {
-            return String.valueOf(call.get());
+            return String.valueOf(call.apply(desk));
         } catch (RuntimeException e) {
             return "throws." + e.getClass().getSimpleName();
         }
     }
 
+    private String read(Function<MergeDesk, Object> call) {
+        calls++;
+        if (calls == CALL_LIMIT + 1) {
+            Check.same("the calls of one object", calls, "at most " + CALL_LIMIT);
+        }
+        return answer(desk, call);
+    }
+
+    private String change(Function<MergeDesk, Object> call) {
+        changes.add(call);
+        return read(call);
+    }
+
+    int callsLeft() {
+        return CALL_LIMIT - calls;
+    }
+
+    /** Another desk on which the same was done, but for the calls that only tell something. */
+    private MergeDesk copy() {
+        MergeDesk copy = new MergeDesk();
+        for (Function<MergeDesk, Object> call : changes) {
+            answer(copy, call);
+        }
+        return copy;
+    }
+
     MergeDesk raw() {
         return desk;
+    }
+
+    String type(long w, int n) {
+        return change(d -> d.type(w, n));
     }
 
     Desk write(String text) {
@@ -31,92 +90,93 @@ final class Desk {
             for (int i = 0; i < n; i++) {
                 w |= (bytes[from + i] & 0xFFL) << (8 * i);
             }
-            Check.same("type of part of " + text, desk.type(w, n), true);
+            Check.same("type of part of " + text, type(w, n), true);
         }
         return this;
     }
 
     String table(String text) {
-        write(text);
-        return tell(() -> desk.table());
+        return write(text).change(d -> d.table());
     }
 
     String record(int table, String text) {
-        write(text);
-        return tell(() -> desk.record(table));
+        return write(text).change(d -> d.record(table));
     }
 
     String cell(int table, int record, int column, String text) {
-        write(text);
-        return tell(() -> {
-            desk.cell(table, record, column);
+        return write(text).change(d -> {
+            d.cell(table, record, column);
             return "";
         });
     }
 
     String drop(int table, int record) {
-        return tell(() -> {
-            desk.drop(table, record);
+        return change(d -> {
+            d.drop(table, record);
             return "";
         });
     }
 
-    int compile(String text) {
-        return write(text).raw().compile();
+    String compile(String text) {
+        return write(text).change(d -> d.compile());
     }
 
     String merge() {
-        return tell(() -> desk.merge());
+        return change(d -> d.merge());
     }
 
-    String variable(String name) {
-        write(name);
-        return tell(() -> desk.variable());
-    }
-
-    String about(int what) {
-        return tell(() -> desk.about(what));
-    }
-
-    String number(int table, int record, int column) {
-        return tell(() -> desk.number(table, record, column));
+    String size() {
+        return read(d -> d.size());
     }
 
     String out(int i) {
-        return tell(() -> desk.out(i));
+        return read(d -> d.out(i));
     }
 
+    String variable(String name) {
+        return write(name).change(d -> d.variable());
+    }
+
+    String about(int what) {
+        return read(d -> d.about(what));
+    }
+
+    String number(int table, int record, int column) {
+        return read(d -> d.number(table, record, column));
+    }
+
+    /** All that came out; a long output is read from copies, as each byte is a call. */
     String output() {
+        int size = Integer.parseInt(size());
         StringBuilder all = new StringBuilder();
-        for (int i = 0; i < desk.size(); i++) {
-            all.append((char) desk.out(i));
+        if (size <= SHORT_OUTPUT) {
+            for (int i = 0; i < size; i++) {
+                all.append((char) Integer.parseInt(out(i)));
+            }
+            return all.toString();
+        }
+        int readable = Math.max(1, CALL_LIMIT - changes.size());
+        for (int from = 0; from < size; from += readable) {
+            MergeDesk copy = copy();
+            for (int i = from; i < Math.min(size, from + readable); i++) {
+                all.append((char) copy.out(i));
+            }
         }
         return all.toString();
     }
 
     /** What a template comes to: the text, or the fault's answer, a space, and what came out before. */
     String merged(String template) {
-        int wrong = compile(template);
-        if (wrong != 0) {
+        String wrong = compile(template);
+        if (!wrong.equals("0")) {
             return "compile " + wrong;
         }
-        int answer = desk.merge();
-        return answer >= 0 ? output() : answer + " " + output();
-    }
-
-    /** The tables that most tests use. */
-    static Desk shop() {
-        Desk shop = new Desk();
-        shop.table("item no name price");
-        shop.table("line no qty");
-        shop.table("empty x");
-        shop.record(0, "1;Pen;150");
-        shop.record(0, "2;Ink;2999");
-        shop.record(0, "3;;-5");
-        shop.record(1, "2;3");
-        shop.record(1, "1;10");
-        shop.record(1, "2;1");
-        shop.record(1, "9;9");
-        return shop;
+        String answer = merge();
+        String output = output();
+        if (answer.startsWith("-") || answer.startsWith("throws.")) {
+            return answer + " " + output;
+        }
+        Check.same("merge of " + template, answer, output.length());
+        return output;
     }
 }

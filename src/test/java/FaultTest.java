@@ -107,7 +107,7 @@ public final class FaultTest {
         Check.same("half a tag", desk.merged("xyz" + many), "-40028 xyz" + ten.repeat(399) + "abcdefg");
         Check.same("half the spaces", desk.merged("123" + many.substring(0, 25) + "{''>10}" + "{end}{end}"),
                 "-40028 123" + (ten.repeat(3) + " ".repeat(10)).repeat(99) + ten.repeat(3) + " ".repeat(7));
-        Check.same("size", desk.raw().size(), 4000);
+        Check.same("size", desk.size(), 4000);
         Check.same("the last byte", desk.out(3999), 32);
         Check.same("none behind it", desk.out(4000), Desk.INDEX);
         Check.same("a fault before too many bytes", desk.merged(many + "{x>20}"), "-10038 " + ten.repeat(400));
@@ -132,6 +132,7 @@ public final class FaultTest {
         String before = " " + "1".repeat(81) + "z";
         String[] more = {"{x}", "{1}", "{1+''}", "{if 1}{end}", "{each nope}{end}", "{let a=1}"};
         for (String tag : more) {
+            desk = full(16);
             Check.same("a 3001st: " + tag, desk.merged(upTo + "z" + tag), -(50000 + place) + before);
             Check.same("done", desk.about(3), 3000);
         }

@@ -2,8 +2,9 @@ import java.util.Random;
 
 /** All promises: long runs of calls, made up from fixed seeds, answered by the class and by the model. */
 public final class ModelTest {
-    private static final int RUNS = 1500;
-    private static final int ROUNDS = 30;
+    private static final int RUNS = 4000;
+    /** A template of 600 bytes, an output that is read directly, and the other calls of a round. */
+    private static final int ROUND_LIMIT = 150;
     private static final String[] NAMES = {"a", "b", "no", "qty", "t", "u", "x", "abcdefgh", "min"};
     private static final String[] FUNCTIONS = {"pct", "div", "min", "max", "abs", "len", "eq", "lt", "sum", "count",
         "f"};
@@ -39,21 +40,23 @@ public final class ModelTest {
 
     private void run(String run) {
         for (int i = 0; i < 3; i++) {
-            tell(run, "table");
+            answer(run, "table");
         }
         for (int i = random.nextInt(40); i > 0; i--) {
-            tell(run, "record");
+            answer(run, "record");
         }
         String[] calls = {"table", "record", "record", "cell", "drop", "compile", "compile", "compile", "merge"};
-        for (int i = 0; i < ROUNDS; i++) {
-            tell(run, pick(calls));
+        while (desk.callsLeft() > ROUND_LIMIT) {
+            String call = pick(calls);
+            state(run + " after " + call + " " + answer(run, call));
         }
     }
 
-    private void tell(String run, String call) {
+    /** Has a call answered by both, and a template merged: the text that it took. */
+    private String answer(String run, String call) {
         int table = random.nextInt(chance(80) ? 3 : 5) - (chance(5) ? 1 : 0);
-        int record = random.nextInt(chance(80) ? 3 : 17);
-        int column = random.nextInt(chance(80) ? 2 : 7);
+        int record = someRecord();
+        int column = someColumn();
         String text = "";
         String got;
         String want;
@@ -74,7 +77,7 @@ public final class ModelTest {
             want = model.drop(table, record);
         } else if (call.equals("compile")) {
             text = template();
-            got = String.valueOf(desk.compile(text));
+            got = desk.compile(text);
             want = String.valueOf(model.compile(text));
         } else {
             got = desk.merge();
@@ -84,10 +87,21 @@ public final class ModelTest {
         if (call.equals("compile") && want.equals("0")) {
             Check.same(run + " merge of " + text, desk.merge(), model.merge());
         }
-        state(run + " after " + call + " " + text, table, record, column);
+        return text;
     }
 
-    private void state(String run, int table, int record, int column) {
+    private int someRecord() {
+        return random.nextInt(chance(80) ? 3 : 17);
+    }
+
+    private int someColumn() {
+        return random.nextInt(chance(80) ? 2 : 7);
+    }
+
+    private void state(String run) {
+        int table = random.nextInt(4);
+        int record = someRecord();
+        int column = someColumn();
         Check.same(run + ": output", desk.output(), model.output);
         for (int what = -1; what <= 5; what++) {
             Check.same(run + ": about " + what, desk.about(what), model.about(what));

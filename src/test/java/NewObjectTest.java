@@ -5,7 +5,7 @@ public final class NewObjectTest {
         for (int what = 0; what <= 4; what++) {
             Check.same("about " + what, desk.about(what), 0);
         }
-        Check.same("size", desk.raw().size(), 0);
+        Check.same("size", desk.size(), 0);
         Check.same("out 0", desk.out(0), Desk.INDEX);
         Check.same("merge", desk.merge(), Desk.STATE);
         Check.same("number", desk.number(0, 0, 0), Desk.INDEX);

@@ -145,7 +145,7 @@ public final class PrintTest {
     private static void output() {
         Desk desk = Desk.shop();
         Check.same("merge", desk.merged("abc"), "abc");
-        Check.same("size", desk.raw().size(), 3);
+        Check.same("size", desk.size(), 3);
         Check.same("out 2", desk.out(2), 'c' + 0);
         int[] nowhere = {-1, 3, 4000, Integer.MAX_VALUE, Integer.MIN_VALUE};
         for (int i : nowhere) {
@@ -160,7 +160,7 @@ public final class PrintTest {
         Check.same("merge once", desk.merge(), 3);
         desk.drop(0, 0);
         Check.same("the tables as they are now", desk.merge(), 0);
-        Check.same("size", desk.raw().size(), 0);
+        Check.same("size", desk.size(), 0);
         Check.same("out 0", desk.out(0), Desk.INDEX);
     }
 }

@@ -78,15 +78,15 @@ public final class RoomTest {
             sum += desk.merge();
         }
         long before = bean.getThreadAllocatedBytes(thread);
-        for (int i = 0; i < CALLS; i++) {
+        for (int i = 0; i < 60; i++) {
             sum += desk.merge() + desk.size() + desk.about(3) + desk.number(0, 1, 0);
         }
-        for (int i = 0; i < CALLS; i++) {
+        for (int i = 0; i < 60; i++) {
             desk.type(0x7D612B312B617BL, 7);
             sum += desk.compile();
         }
         Check.same("a template", desk.about(2), 1);
         long made = bean.getThreadAllocatedBytes(thread) - before;
-        Check.same("1024 calls made " + made + " bytes (" + sum + ")", made < 64 * 1024, true);
+        Check.same("360 calls made " + made + " bytes (" + sum + ")", made < 16 * 1024, true);
     }
 }

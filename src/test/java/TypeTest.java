@@ -24,7 +24,7 @@ public final class TypeTest {
         Desk desk = new Desk();
         int[] counts = {0, -1, 9, Integer.MAX_VALUE, Integer.MIN_VALUE};
         for (int n : counts) {
-            Check.same("type " + n, desk.raw().type(0x61, n), false);
+            Check.same("type " + n, desk.type(0x61, n), false);
         }
         Check.same("nothing was typed", desk.merged(""), "");
     }
@@ -32,11 +32,11 @@ public final class TypeTest {
     private static void limit() {
         Desk desk = new Desk();
         desk.write("x".repeat(595));
-        Check.same("six more than 594", desk.raw().type(0, 6), false);
-        Check.same("600 in all", desk.raw().type(0, 5), true);
-        Check.same("601", desk.raw().type(0, 1), false);
-        Check.same("too long a template", desk.raw().compile(), 501);
-        Check.same("then there is room", desk.raw().type(0, 8), true);
+        Check.same("six more than 594", desk.type(0, 6), false);
+        Check.same("600 in all", desk.type(0, 5), true);
+        Check.same("601", desk.type(0, 1), false);
+        Check.same("too long a template", desk.compile(""), 501);
+        Check.same("then there is room", desk.type(0, 8), true);
     }
 
     private static void emptied() {
@@ -47,7 +47,7 @@ public final class TypeTest {
         desk.number(0, 0, 0);
         desk.out(3);
         desk.about(9);
-        desk.raw().size();
+        desk.size();
         Check.same("calls that don't take the text leave it", desk.table(""), 0);
         Check.same("table took it", desk.merged(""), "");
         desk.table("?");
