@@ -77,7 +77,8 @@ public final class FaultBoundsTest {
 
     private static void namesForNothing() {
         Check.sentence("1 a name that stands for nothing");
-        fault(1, "nope", "no", "item", "abs", "nope+1", "1+nope", "-nope", "(nope)", "abs(nope)", "min(1,nope)", "eq(nope,1)");
+        fault(1, "nope", "no", "item", "abs", "nope+1", "1+nope", "-nope", "(nope)", "abs(nope)", "min(1,nope)",
+                "eq(nope,1)");
         due("{let a=1}{aa}", "-10009 ");
         due("{let aa=1}{a}", "-10010 ");
         due("{each item}{no}{end}{no}", "-10020 123");
@@ -88,15 +89,16 @@ public final class FaultBoundsTest {
 
     private static void functionsForNothing() {
         Check.sentence("1 .. a function .. that there is not, or with another number of arguments");
-        fault(1, "f(1)", "mins(1)", "mi(1)", "item(1)", "no(1)", "pct(1)", "pct(1,1,1)", "div(1)", "div(1,1,1)", "abs(1,1)", "len('a','a')",
-                "eq(1)", "eq(1,1,1)", "lt(1)", "lt(1,1,1)", "sum(item)", "sum(item,no,no)", "count(item,no)");
+        fault(1, "f(1)", "mins(1)", "mi(1)", "item(1)", "no(1)", "pct(1)", "pct(1,1,1)", "div(1)", "div(1,1,1)",
+                "abs(1,1)", "len('a','a')", "eq(1)", "eq(1,1,1)", "lt(1)", "lt(1,1,1)", "sum(item)", "sum(item,no,no)",
+                "count(item,no)");
         due("{let f=1}{f(1)}", "-10009 ");
     }
 
     private static void tablesForNothing() {
         Check.sentence("1 .. a table or column that there is not; or for T or C no name alone");
-        fault(1, "count(nope)", "sum(nope,no)", "sum(item,nope)", "sum(item,qty)", "sum(empty,no)", "count(no)", "count(1)", "sum(item,1)",
-                "count((item))", "sum(item,(no))");
+        fault(1, "count(nope)", "sum(nope,no)", "sum(item,nope)", "sum(item,qty)", "sum(empty,no)", "count(no)",
+                "count(1)", "sum(item,1)", "count((item))", "sum(item,(no))");
         due("{each nope}{end}", "-10000 ");
         due("{each item nope=1}{end}", "-10000 ");
         due("{each item qty=1}{end}", "-10000 ");
@@ -109,9 +111,10 @@ public final class FaultBoundsTest {
         Check.sentence("2 a word where there must be a number");
         String[] words = {"'a'", "''", "'1'", "('a')"};
         for (String word : words) {
-            fault(2, word + "+1", "1+" + word, word + "-1", "1-" + word, word + "*1", "1*" + word, "-" + word, "pct(" + word + ",1)",
-                    "pct(1," + word + ")", "div(" + word + ",1)", "div(1," + word + ")", "min(" + word + ")", "max(1," + word + ")",
-                    "abs(" + word + ")", "lt(" + word + ",1)", "lt(1," + word + ")", word + "+" + word, "0*" + word);
+            fault(2, word + "+1", "1+" + word, word + "-1", "1-" + word, word + "*1", "1*" + word, "-" + word,
+                    "pct(" + word + ",1)", "pct(1," + word + ")", "div(" + word + ",1)", "div(1," + word + ")",
+                    "min(" + word + ")", "max(1," + word + ")", "abs(" + word + ")", "lt(" + word + ",1)",
+                    "lt(1," + word + ")", word + "+" + word, "0*" + word);
             due("{" + word + ":1}", "-20000 ");
             due("{" + word + ":4>9}", "-20000 ");
         }
@@ -135,8 +138,9 @@ public final class FaultBoundsTest {
         due("{" + HIGH + "-1-1}", "999999999999998");
         due("{500000000000000+500000000000000}", "1000000000000000");
         due("{-500000000000000-500000000000000}", "-1000000000000000");
-        fault(3, "999999999999999+2", "-999999999999999-2", "2+999999999999999", "-2-999999999999999", HIGH + "+1", LOW + "-1",
-                "500000000000000+500000000000001", "-500000000000000-500000000000001", "999999999999999+2-2", "(" + HIGH + ")+(" + HIGH + ")");
+        fault(3, "999999999999999+2", "-999999999999999-2", "2+999999999999999", "-2-999999999999999", HIGH + "+1",
+                LOW + "-1", "500000000000000+500000000000001", "-500000000000000-500000000000001",
+                "999999999999999+2-2", "(" + HIGH + ")+(" + HIGH + ")");
     }
 
     private static void products() {
@@ -158,13 +162,15 @@ public final class FaultBoundsTest {
 
     private static void printedNowhere() {
         Check.sentence("3 .. (also one that is printed nowhere)");
-        fault(3, "0*(999999999999999+2)", "min(1,999999999999999+2)", "eq(999999999999999+2,1)", "lt(1,999999999999999+2)",
-                "div(999999999999999+2,2)", "abs(-999999999999999-2)", "-(999999999999999+2)", "div(1,0)", "0*div(1,0)", "div(0,0)");
+        fault(3, "0*(999999999999999+2)", "min(1,999999999999999+2)", "eq(999999999999999+2,1)",
+                "lt(1,999999999999999+2)", "div(999999999999999+2,2)", "abs(-999999999999999-2)",
+                "-(999999999999999+2)", "div(1,0)", "0*div(1,0)", "div(0,0)");
         due("{if 0}{999999999999999+2}{end}ok", "ok");
     }
 
     private static void bytesTooMany() {
-        Check.sentence("4 more than 4000 bytes (the first 4000 come out); the byte that stands for itself (of {{ the first one)");
+        Check.sentence("4 more than 4000 bytes (the first 4000 come out); "
+                + "the byte that stands for itself (of {{ the first one)");
         int[] counts = {3999, 4000};
         for (int count : counts) {
             Check.same(count + " bytes", full().merged(bytes(count)), printed(count));
@@ -175,8 +181,10 @@ public final class FaultBoundsTest {
         Check.same("4000 with {{", full().merged(least + "{{"), printed(3999) + "{");
         Check.same("4001 with a byte", full().merged(most + "}"), -40000 - most.length() + " " + printed(4000));
         Check.same("4001 with {{", full().merged(most + "{{"), -40000 - most.length() + " " + printed(4000));
-        Check.same("4001 with the second {{", full().merged(least + "{{{{"), -40002 - least.length() + " " + printed(3999) + "{");
-        Check.same("4001 with the second byte", full().merged(least + "yz"), -40001 - least.length() + " " + printed(3999) + "y");
+        Check.same("4001 with the second {{", full().merged(least + "{{{{"), -40002 - least.length() + " "
+                + printed(3999) + "{");
+        Check.same("4001 with the second byte", full().merged(least + "yz"), -40001 - least.length() + " "
+                + printed(3999) + "y");
         String inLoop = "{each t}z{end}" + bytes(3990).replace("x", "");
         Check.same("a byte in a loop", full().merged(bytes(3984) + "{each t}{each t}z{end}{end}"),
                 -40016 - bytes(3984).length() + " " + printed(3984) + "z".repeat(16));
@@ -185,9 +193,10 @@ public final class FaultBoundsTest {
 
     private static void tagsWithTooManyBytes() {
         Check.sentence("4 more than 4000 bytes; the { of the tag in which it was (what came out before it is there)");
-        String[] tags = {"{12345}", "{'abcde'}", "{-1234}", "{-123:2}", "{123:2>5}", "{-12:1>5}", "{1>5}", "{1<5}", "{''>5}", "{''<5}",
-            "{'ab'>5}", "{'ab'<5}"};
-        String[] shown = {"12345", "abcde", "-1234", "-1.23", " 1.23", " -1.2", "    1", "1    ", "     ", "     ", "   ab", "ab   "};
+        String[] tags = {"{12345}", "{'abcde'}", "{-1234}", "{-123:2}", "{123:2>5}", "{-12:1>5}", "{1>5}", "{1<5}",
+            "{''>5}", "{''<5}", "{'ab'>5}", "{'ab'<5}"};
+        String[] shown = {"12345", "abcde", "-1234", "-1.23", " 1.23", " -1.2", "    1", "1    ", "     ", "     ",
+            "   ab", "ab   "};
         for (int i = 0; i < tags.length; i++) {
             for (int room = 0; room <= 5; room++) {
                 String before = bytes(4000 - room);
@@ -198,8 +207,10 @@ public final class FaultBoundsTest {
         }
         String most = bytes(4000);
         Check.same("an empty word", full().merged(most + "{''}{let a=1}{if a}{else}{end}{each t}{end}"), printed(4000));
-        Check.same("what is worked out first", full().merged(most + "{nope>20}"), -10000 - most.length() + " " + printed(4000));
-        Check.same("what is looked at first", full().merged(most + "{'a':2}"), -20000 - most.length() + " " + printed(4000));
+        Check.same("what is worked out first", full().merged(most + "{nope>20}"), -10000 - most.length() + " "
+                + printed(4000));
+        Check.same("what is looked at first", full().merged(most + "{'a':2}"), -20000 - most.length() + " "
+                + printed(4000));
     }
 
     private static void tagsTooMany() {
@@ -211,7 +222,8 @@ public final class FaultBoundsTest {
             Check.same("done", desk.about(3), count);
         }
         String most = tags(3000);
-        String[] more = {"{1}", "{''}", "{if 1}{end}", "{if 0}{end}", "{each t}{end}", "{each t a=99}{end}", "{let v=1}"};
+        String[] more = {"{1}", "{''}", "{if 1}{end}", "{if 0}{end}", "{each t}{end}", "{each t a=99}{end}",
+            "{let v=1}"};
         for (String tag : more) {
             Desk desk = full();
             Check.same("2999 and " + tag, desk.merged(tags(2999) + tag), tag.equals("{1}") ? "1" : "");
@@ -226,8 +238,9 @@ public final class FaultBoundsTest {
 
     private static void tagsThatCount() {
         Check.sentence("(each time counts; a loop's begin once, an end and an else never)");
-        String[] templates = {"{each t}{end}", "{each t}{if 0}{1}{else}{end}{end}", "{each t}{if 1}{let x=1}{else}{1}{1}{end}{end}",
-            "{each t a=3}{let x=1}{end}", "{each t a=99}{let x=1}{end}", "{if 0}{let x=1}{let x=1}{end}", "{if 1}{else}{let x=1}{end}",
+        String[] templates = {"{each t}{end}", "{each t}{if 0}{1}{else}{end}{end}",
+            "{each t}{if 1}{let x=1}{else}{1}{1}{end}{end}", "{each t a=3}{let x=1}{end}",
+            "{each t a=99}{let x=1}{end}", "{if 0}{let x=1}{let x=1}{end}", "{if 1}{else}{let x=1}{end}",
             "{each t}{each t a=a}{end}{end}", "x{{", "{if 0}{each t}{1}{end}{else}{each t}{end}{end}"};
         int[] done = {1, 17, 33, 2, 1, 1, 1, 17, 0, 2};
         for (int i = 0; i < templates.length; i++) {
@@ -248,38 +261,37 @@ public final class FaultBoundsTest {
     private static void beforeAnythingOfIt() {
         Check.sentence("5 .. before anything of it");
         String most = tags(3000);
-        String[] tags = {"{nope}", "{1+'a'}", "{div(1,0)}", "{each nope}{end}", "{each t nope=1}{end}", "{if nope}{end}", "{let v=nope}",
-            "{'a':2}", "{f(1)}"};
+        String[] tags = {"{nope}", "{1+'a'}", "{div(1,0)}", "{each nope}{end}", "{each t nope=1}{end}",
+            "{if nope}{end}", "{let v=nope}", "{'a':2}", "{f(1)}"};
         for (String tag : tags) {
             Check.same(tag, full().merged(most + tag), -50000 - most.length() + " ");
         }
-        String both = "{each t}{each t}{b}{let v=1}{''}{end}{end}";
-        Check.same("tags are counted with bytes", full().merged(both.replace("{b}", "{b>15}") + tags(2215)), printed3840());
-        Check.same("too many tags before too many bytes",
-                full().merged(both.replace("{b}", "{b>15}") + tags(2215) + "{b>20}"),
-                -50000 - both.length() - 3 - tags(2215).length() + " " + printed3840());
-    }
-
-    private static String printed3840() {
-        return "   abcdefghijkl".repeat(256);
+        String before = "{each t}{each t}{b>15}{let v=1}{''}{end}{end}" + tags(2215);
+        String shown = "   abcdefghijkl".repeat(256);
+        Check.same("3840 bytes and 3000 tags", full().merged(before), shown);
+        Check.same("a tag that is too many, with bytes that are", full().merged(before + "{''>20}".repeat(9)),
+                -50000 - before.length() + " " + shown);
+        Check.same("a byte behind it", full().merged(before + "x"), shown + "x");
     }
 
     private static void functionsFirst() {
         Check.sentence("A function's name and how many arguments it has are looked at first");
-        fault(1, "f('a'+1)", "f(div(1,0))", "f(1+'a',nope)", "pct('a'+1)", "abs(1,div(1,0))", "len(1,2)", "lt('a')", "min(f('a'+1),1)",
-                "eq(1,1,div(1,0))", "div(1,0,0)", "sum(1+'a')", "count(item,1+'a')");
+        fault(1, "f('a'+1)", "f(div(1,0))", "f(1+'a',nope)", "pct('a'+1)", "abs(1,div(1,0))", "len(1,2)", "lt('a')",
+                "min(f('a'+1),1)", "eq(1,1,div(1,0))", "div(1,0,0)", "sum(1+'a')", "count(item,1+'a')");
         Check.sentence("then .. a name alone, as it must be");
-        fault(1, "count(1+'a')", "count(div(1,0))", "sum(1+'a',no)", "sum(item,1+'a')", "sum(item,div(1,0))", "sum(nope,div(1,0))");
+        fault(1, "count(1+'a')", "count(div(1,0))", "sum(1+'a',no)", "sum(item,1+'a')", "sum(item,div(1,0))",
+                "sum(nope,div(1,0))");
     }
 
     private static void leftToRight() {
         Check.sentence("then its arguments from the left to the right, each worked out and looked at");
-        fault(1, "min(nope,'a')", "min(nope,div(1,0))", "pct(nope,'a')", "div(nope,0)", "lt(nope,'a')", "eq(nope,1+'a')", "min(1,nope,'a')",
-                "eq('a',nope)", "len(nope)");
-        fault(2, "min('a',nope)", "min('a',div(1,0))", "pct('a',nope)", "div('a',0)", "div('a',nope)", "lt('a',nope)", "eq(1+'a',nope)",
-                "min(1,'a',nope)", "div(0,'a')", "div(1,'a')", "pct(999999999999999,'a')", "lt(1,'a')");
-        fault(3, "min(div(1,0),nope)", "min(div(1,0),'a')", "eq(div(1,0),nope)", "pct(999999999999999,101+0*div(1,0))", "lt(div(1,0),'a')",
-                "len(div(1,0))");
+        fault(1, "min(nope,'a')", "min(nope,div(1,0))", "pct(nope,'a')", "div(nope,0)", "lt(nope,'a')",
+                "eq(nope,1+'a')", "min(1,nope,'a')", "eq('a',nope)", "len(nope)");
+        fault(2, "min('a',nope)", "min('a',div(1,0))", "pct('a',nope)", "div('a',0)", "div('a',nope)", "lt('a',nope)",
+                "eq(1+'a',nope)", "min(1,'a',nope)", "div(0,'a')", "div(1,'a')", "pct(999999999999999,'a')",
+                "lt(1,'a')");
+        fault(3, "min(div(1,0),nope)", "min(div(1,0),'a')", "eq(div(1,0),nope)", "pct(999999999999999,101+0*div(1,0))",
+                "lt(div(1,0),'a')", "len(div(1,0))");
         Check.sentence("in x op y likewise first x, then y");
         String[] operators = {"+", "-", "*"};
         for (String op : operators) {

@@ -77,7 +77,8 @@ public final class FunctionBoundsTest {
         due("pct(-5363222357,18645507)", -MOST);
         fault(3, "pct(21993833369,4546729)", "pct(-21993833369,4546729)", "pct(21993833369,-4546729)",
                 "pct(-21993833369,-4546729)", "pct(4546729,21993833369)");
-        fault(3, "pct(" + HIGH + ",101)", "pct(101," + LOW + ")", "pct(" + HIGH + "," + HIGH + ")", "pct(" + LOW + "," + LOW + ")");
+        fault(3, "pct(" + HIGH + ",101)", "pct(101," + LOW + ")", "pct(" + HIGH + "," + HIGH + ")",
+                "pct(" + LOW + "," + LOW + ")");
         // beyond what a long holds: 2^64, and 2^64 + 2^33
         fault(3, "pct(4294967296,4294967296)", "pct(8589934592,2147483649)");
         due("pct(" + HIGH + ",0)", 0);
@@ -188,8 +189,10 @@ public final class FunctionBoundsTest {
         Check.same("-10^15", Desk.of("t a", "-" + most, "-1").merged("{sum(t,a)}"), -MOST);
         Check.same("-10^15 - 1", Desk.of("t a", "-" + most, "-2").merged("{sum(t,a)}"), "-30000 ");
         Check.same("beyond it on the way", Desk.of("t a", most, most, "-" + most).merged("{sum(t,a)}"), most);
-        Check.same("beyond it on the way down", Desk.of("t a", "-" + most, "-5", "6", "x").merged("{sum(t,a)}"), "-999999999999998");
-        Check.same("sixteen of the largest", Desk.of("t a", (most + " ").repeat(16).split(" ")).merged("{sum(t,a)}"), "-30000 ");
+        Check.same("beyond it on the way down", Desk.of("t a", "-" + most, "-5", "6", "x").merged("{sum(t,a)}"),
+                "-999999999999998");
+        Check.same("sixteen of the largest", Desk.of("t a", (most + " ").repeat(16).split(" ")).merged("{sum(t,a)}"),
+                "-30000 ");
     }
 
     private static void count() {
@@ -222,12 +225,14 @@ public final class FunctionBoundsTest {
 
     private static void namesAlone() {
         Check.sentence("T and C are names alone");
-        fault(1, "count((item))", "count(-item)", "count('item')", "count(0)", "count(item+0)", "count(0+item)", "count(item*1)",
-                "count(abs(item))", "count(item(1))");
-        fault(1, "sum((item),price)", "sum('item',price)", "sum(0,price)", "sum(item+0,price)", "sum(count(item),price)");
+        fault(1, "count((item))", "count(-item)", "count('item')", "count(0)", "count(item+0)", "count(0+item)",
+                "count(item*1)", "count(abs(item))", "count(item(1))");
+        fault(1, "sum((item),price)", "sum('item',price)", "sum(0,price)", "sum(item+0,price)",
+                "sum(count(item),price)");
         fault(1, "sum(item,(price))", "sum(item,'price')", "sum(item,2)", "sum(item,price+0)", "sum(item,-price)",
                 "sum(item,abs(price))");
-        Check.same("a name that is a variable too", Desk.shop().merged("{let item=0}{let price='x'}{sum(item,price)}{count(item)}"),
+        Check.same("a name that is a variable too",
+                Desk.shop().merged("{let item=0}{let price='x'}{sum(item,price)}{count(item)}"),
                 "31443");
         Check.same("a variable that is not a table", Desk.shop().merged("{let a=0}{count(a)}"), "-10009 ");
     }

@@ -15,12 +15,17 @@ public final class LatestMergeTest {
         variableNames();
         records();
         otherWhats();
+        blocksThatWereOpen();
+        loopsThatWereOpen();
+        valuesThatWaited();
+        constantsOfOthers();
         Check.end();
     }
 
     /** All that promises 9 to 12 tell of the latest merge(), and of the template. */
     private static String told(Desk desk) {
-        return "size " + desk.size() + " [" + desk.output() + "] tags " + desk.about(2) + " done " + desk.about(3) + " set "
+        return "size " + desk.size() + " [" + desk.output() + "] tags " + desk.about(2) + " done " + desk.about(3)
+                + " set "
                 + desk.about(4) + " v " + desk.variable("v") + " w " + desk.variable("w");
     }
 
@@ -113,7 +118,8 @@ public final class LatestMergeTest {
             desk = new Desk();
             desk.merged("ab{let v=5}{nope}");
             desk.compile(template);
-            Check.same("after a fault and " + template, told(desk), "size 2 [ab] tags 0 done 2 set 1 v 5 w " + Desk.NONE);
+            Check.same("after a fault and " + template, told(desk), "size 2 [ab] tags 0 done 2 set 1 v 5 w "
+                    + Desk.NONE);
         }
     }
 
@@ -144,7 +150,8 @@ public final class LatestMergeTest {
         Check.sentence("Byte i of what came out. IndexOutOfBoundsException");
         Desk desk = new Desk();
         desk.merged("abc");
-        Object[][] due = {{0, 97}, {1, 98}, {2, 99}, {-1, Desk.INDEX}, {3, Desk.INDEX}, {600, Desk.INDEX}, {4000, Desk.INDEX},
+        Object[][] due = {{0, 97}, {1, 98}, {2, 99}, {-1, Desk.INDEX}, {3, Desk.INDEX}, {600, Desk.INDEX}, {4000,
+            Desk.INDEX},
             {Integer.MAX_VALUE, Desk.INDEX}, {Integer.MIN_VALUE, Desk.INDEX}};
         for (Object[] pair : due) {
             Check.same("out " + pair[0], desk.out((Integer) pair[0]), pair[1]);
@@ -166,8 +173,8 @@ public final class LatestMergeTest {
         Check.sentence("its number after the latest merge(). NoSuchElementException when it was not set, or is a word");
         Desk desk = new Desk();
         desk.merged("{let v=1}{let v=v+1}{let w='a'}{let x=''}{let y=-0}{let z='1'}{let big=999999999999999+1}");
-        String[][] due = {{"v", "2"}, {"w", Desk.NONE}, {"x", Desk.NONE}, {"y", "0"}, {"z", Desk.NONE}, {"big", "1000000000000000"},
-            {"u", Desk.NONE}};
+        String[][] due = {{"v", "2"}, {"w", Desk.NONE}, {"x", Desk.NONE}, {"y", "0"}, {"z", Desk.NONE},
+            {"big", "1000000000000000"}, {"u", Desk.NONE}};
         for (String[] pair : due) {
             Check.same("variable " + pair[0], desk.variable(pair[0]), pair[1]);
         }
@@ -200,7 +207,8 @@ public final class LatestMergeTest {
         Desk desk = new Desk();
         desk.merged("{let v=1}{let abcdefgh=2}");
         Check.same("eight letters", desk.variable("abcdefgh"), 2);
-        String[] none = {"", " ", "v ", " v", "vv", "V", "v=1", "{v}", "abcdefg", "abcdefghi", "bcdefgh", "let", "end", "1", "v\0", "\0v"};
+        String[] none = {"", " ", "v ", " v", "vv", "V", "v=1", "{v}", "abcdefg", "abcdefghi", "bcdefgh", "let", "end",
+            "1", "v\0", "\0v"};
         for (String name : none) {
             Check.same("variable " + name, desk.variable(name), Desk.NONE);
         }
@@ -239,5 +247,56 @@ public final class LatestMergeTest {
         for (int what : others) {
             Check.same("about " + what, desk.about(what), Desk.INDEX);
         }
+    }
+
+    private static void blocksThatWereOpen() {
+        Check.sentence("The text is taken as a template (whatever an earlier one left open)");
+        String six = "{if 1}{each t}".repeat(3);
+        String[] left = {"{if 1}", "{if 1}{else}{if 1}", six, six + "{if 1}", "{each t}{?}"};
+        for (String template : left) {
+            Desk desk = new Desk();
+            Check.same("wrong: " + template, desk.compile(template).equals("0"), false);
+            Check.same("no block is open", desk.merged("x"), "x");
+            desk.compile(template);
+            Check.same("none to be ended", desk.compile("{end}"), 1);
+            desk.compile(template);
+            Check.same("none for an else", desk.compile("{else}"), 1);
+            desk.compile(template);
+            Check.same("six may be open", desk.compile(six + "{end}".repeat(6)), 0);
+        }
+        Desk desk = new Desk();
+        desk.compile("{a}".repeat(120) + "{");
+        Check.same("120 tags may stand in the next", desk.compile("{7}".repeat(120)), 0);
+    }
+
+    private static void loopsThatWereOpen() {
+        Check.sentence("MERGING (whatever loops an earlier fault left)");
+        Desk desk = Desk.of("t a", "5");
+        String six = "{each t}".repeat(6);
+        desk.compile(six + "{nope}" + "{end}".repeat(6));
+        Check.same("a fault in six loops", desk.merge(), -10048);
+        Check.same("the same once more", desk.merge(), -10048);
+        Check.same("a column outside of a loop", desk.merged("{a}"), "-10000 ");
+        Check.same("six loops again", desk.merged(six + "{a}" + "{end}".repeat(6) + "{let a=3}{a}"), "53");
+    }
+
+    private static void valuesThatWaited() {
+        Check.sentence("MERGING (whatever values waited when an earlier one ended in a fault)");
+        Desk desk = Desk.of("t a", "5", "6");
+        desk.compile("{each t a=1+2*min(3,4+5*min(6,7+8*nope))}{end}");
+        for (int i = 0; i < 40; i++) {
+            Check.same("a fault", desk.merge(), -10000);
+        }
+        Check.same("a sum", desk.merged("{1+2*min(3,4+5*min(6,7+8*9))}{each t a=2+3}{a}{end}"), "75");
+    }
+
+    private static void constantsOfOthers() {
+        Check.sentence("The text is taken as a template (after many others)");
+        Desk desk = new Desk();
+        for (int i = 1; i <= 7; i++) {
+            Check.same("template " + i, desk.merged("{" + "1+1+".repeat(24) + i + "+" + i + "}"), 48 + 2 * i);
+            Check.same("of which another half is wrong", desk.compile("{" + "3+".repeat(40) + "}"), 82);
+        }
+        Check.same("the last", desk.merged("{1}{2}{'a'}{3}{'b'}"), "12a3b");
     }
 }

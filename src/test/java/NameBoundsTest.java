@@ -111,7 +111,8 @@ public final class NameBoundsTest {
     }
 
     private static void wordsOfTags() {
-        Check.sentence("letters that stand there are read as far as they go; are they one of the five words, it is that tag");
+        Check.sentence("letters that stand there are read as far as they go; "
+                + "are they one of the five words, it is that tag");
         String[] names = {"eac", "eachs", "en", "ends", "i", "iff", "els", "elses", "le", "lets", "eache"};
         for (String name : names) {
             Check.same(name, new Desk().merged("{let " + name + "=3}{" + name + "}"), "3");

@@ -52,8 +52,8 @@ public final class PlaceBoundsTest {
         Check.sentence("At most 120 tags; At the { of a tag: 120 tags are read already");
         String most = "{a}".repeat(120);
         good(most, most + "{{", most + "x}y{{z}", "{{".repeat(20) + most);
-        wrong(most + "^{a}", most + "^{}", most + "^{", most + "^{?", most + "{{x^{a}", most + "^{let}", most + "^{end x}",
-                most + "^{if 1}{end}", most + "^{abcdefghi}", most + "^{else}", most + "{{^{");
+        wrong(most + "^{a}", most + "^{}", most + "^{", most + "^{?", most + "{{x^{a}", most + "^{let}",
+                most + "^{end x}", most + "^{if 1}{end}", most + "^{abcdefghi}", most + "^{else}", most + "{{^{");
         wrong("{a}".repeat(119) + "{^}", "{a}".repeat(119) + "{^", "{a}".repeat(119) + "^{end}");
         String[] kinds = {"{if 1}{end}", "{each t}{end}", "{if 1}{else}{end}{a}"};
         for (String kind : kinds) {
@@ -73,8 +73,8 @@ public final class PlaceBoundsTest {
         Check.sentence("letters a .. z that stand there are read as far as they go; are they one of the five words, "
                 + "it is that tag; otherwise an EXPR begins there");
         good("{ends}", "{ifs}", "{lets}", "{elses}", "{eachs}", "{en}", "{e}");
-        wrong("{eachx^ t}{end}", "{ifx^ 1}", "{letx^ a=1}", "{end^1}", "{if^1}{end}", "{^End}", "{^IF 1}",
-                "{^ end}", "{(^end)}", "{1+^let}", "{endend^ }", "{^abcdefghi 1}", "{^}", "{^ }");
+        wrong("{eachx^ t}{end}", "{ifx^ 1}", "{letx^ a=1}", "{end^1}", "{if^1}{end}", "{^End}", "{^IF 1}", "{^ end}",
+                "{(^end)}", "{1+^let}", "{endend^ }", "{^abcdefghi 1}", "{^}", "{^ }");
     }
 
     private static void behindEndAndElse() {
@@ -90,17 +90,16 @@ public final class PlaceBoundsTest {
         Check.sentence("at the {: none is open that it belongs to (a second else, too)");
         good("{if 1}{else}{end}{if 1}{else}{end}", "{if 1}{else}{if 1}{else}{end}{end}",
                 "{if 1}{each t}{end}{else}{each t}{end}{end}", "{each t}{if 1}{else}{end}{end}");
-        wrong("^{end}", "x^{end}", "{if 1}{end}^{end}", "{each t}{end}^{end}", "{if 1}{else}{end}^{end}",
-                "^{else}", "{a}^{else}", "{if 1}{end}^{else}", "{each t}^{else}{end}", "{each t c=1}^{else}{end}",
+        wrong("^{end}", "x^{end}", "{if 1}{end}^{end}", "{each t}{end}^{end}", "{if 1}{else}{end}^{end}", "^{else}",
+                "{a}^{else}", "{if 1}{end}^{else}", "{each t}^{else}{end}", "{each t c=1}^{else}{end}",
                 "{if 1}{else}^{else}{end}", "{if 1}{each t}^{else}{end}{end}", "{if 1}{if 1}{else}^{else}{end}{end}",
-                "{if 1}{else}{if 1}{end}^{else}{end}", "{each t}{if 1}{end}^{else}{end}",
-                SIX + SIX_ENDS + "^{end}");
+                "{if 1}{else}{if 1}{end}^{else}{end}", "{each t}{if 1}{end}^{else}{end}", SIX + SIX_ENDS + "^{end}");
     }
 
     private static void behindEachIfLet() {
         Check.sentence("Behind each, if, let: a space");
-        wrong("{each^}", "{each^", "{each^(t)}", "{each^\tt}", "{each^=1}", "{if^}", "{if^", "{if^(1)}{end}", "{if^'a'}{end}",
-                "{if^-1}{end}", "{let^}", "{let^", "{let^=1}", "{let^(a)=1}", "{let^:a=1}");
+        wrong("{each^}", "{each^", "{each^(t)}", "{each^\tt}", "{each^=1}", "{if^}", "{if^", "{if^(1)}{end}",
+                "{if^'a'}{end}", "{if^-1}{end}", "{let^}", "{let^", "{let^=1}", "{let^(a)=1}", "{let^:a=1}");
     }
 
     private static void sixOpen() {
@@ -123,15 +122,15 @@ public final class PlaceBoundsTest {
     private static void eachParts() {
         Check.sentence("Then: a name, and } or a space, a name, =, an EXPR, }");
         good("{each t}{end}", "{each t c=1}{end}", "{each t c='a'+b*(c)}{end}");
-        wrong("{each ^}", "{each ^", "{each ^ t}", "{each ^1}", "{each ^'t'}", "{each ^(t)}", "{each ^each}", "{each ^T}",
-                "{each ^abcdefghi}");
+        wrong("{each ^}", "{each ^", "{each ^ t}", "{each ^1}", "{each ^'t'}", "{each ^(t)}", "{each ^each}",
+                "{each ^T}", "{each ^abcdefghi}");
         wrong("{each t^", "{each t^=1}", "{each t^(1)}", "{each t^:2}", "{each t^>2}", "{each t^,u}", "{each t^1}");
         wrong("{each t ^", "{each t ^}", "{each t ^ c=1}", "{each t ^=1}", "{each t ^1=1}", "{each t ^let=1}",
                 "{each t ^abcdefghi=1}");
         wrong("{each t c^", "{each t c^}", "{each t c^ =1}", "{each t c^(1)}", "{each t c^:1}", "{each t c^1=1}");
         wrong("{each t c=^", "{each t c=^}", "{each t c=^ 1}", "{each t c=^=1}", "{each t c=^end}");
-        wrong("{each t c=1^", "{each t c=1^ }", "{each t c=1^:2}", "{each t c=1^>2}", "{each t c=1^<2}", "{each t c=1^ d=2}",
-                "{each t c=1^=1}");
+        wrong("{each t c=1^", "{each t c=1^ }", "{each t c=1^:2}", "{each t c=1^>2}", "{each t c=1^<2}",
+                "{each t c=1^ d=2}", "{each t c=1^=1}");
     }
 
     private static void ifParts() {
@@ -147,7 +146,8 @@ public final class PlaceBoundsTest {
         wrong("{let ^", "{let ^}", "{let ^ a=1}", "{let ^1=1}", "{let ^=1}", "{let ^let=1}", "{let ^abcdefghi=1}");
         wrong("{let a^", "{let a^}", "{let a^ =1}", "{let a^(1)=1}", "{let a^:=1}", "{let a^-1}");
         wrong("{let a=^", "{let a=^}", "{let a=^ 1}", "{let a=^=1}", "{let a=^+1}");
-        wrong("{let a=1^", "{let a=1^ }", "{let a=1^:2}", "{let a=1^>2}", "{let a=1^<2}", "{let a=1^=1}", "{let a=1^,}");
+        wrong("{let a=1^", "{let a=1^ }", "{let a=1^:2}", "{let a=1^>2}", "{let a=1^<2}", "{let a=1^=1}",
+                "{let a=1^,}");
     }
 
     private static void points() {
@@ -157,8 +157,8 @@ public final class PlaceBoundsTest {
             place("{a:" + (char) b + "}", fits ? 0 : 4);
         }
         good("{a:1}", "{a:4}", "{a:1>1}", "{a:4<20}");
-        wrong("{a:^", "{a:^}", "{a:^0}", "{a:^5}", "{a:^ 2}", "{a:^>3}", "{a:2^2}", "{a:2^:2}", "{a:2^ }", "{a:2^", "{a^ :2}",
-                "{a:4^0}", "{a:^-1}", "{^:2}");
+        wrong("{a:^", "{a:^}", "{a:^0}", "{a:^5}", "{a:^ 2}", "{a:^>3}", "{a:2^2}", "{a:2^:2}", "{a:2^ }", "{a:2^",
+                "{a^ :2}", "{a:4^0}", "{a:^-1}", "{^:2}");
     }
 
     private static void widths() {
@@ -178,8 +178,8 @@ public final class PlaceBoundsTest {
                 place(start + "0" + width + "}", start.length() + 1);
             }
         }
-        wrong("{a>^", "{a>^}", "{a>^>3}", "{a>^ 3}", "{a^ >3}", "{a>3^ }", "{a>3^", "{a>20^", "{a>20^0}", "{a>19^9}", "{a>1^a}",
-                "{a>3^<3}", "{a>3^>3}", "{a>3^:2}", "{a>^<3}", "{a>^-3}", "{^>3}", "{a>2^1", "{a>^'3'}");
+        wrong("{a>^", "{a>^}", "{a>^>3}", "{a>^ 3}", "{a^ >3}", "{a>3^ }", "{a>3^", "{a>20^", "{a>20^0}", "{a>19^9}",
+                "{a>1^a}", "{a>3^<3}", "{a>3^>3}", "{a>3^:2}", "{a>^<3}", "{a>^-3}", "{^>3}", "{a>2^1", "{a>^'3'}");
     }
 
     private static void braces() {
@@ -190,16 +190,16 @@ public final class PlaceBoundsTest {
                 place("{(a)" + (char) b + "}", 5);
             }
         }
-        wrong("{a^", "{a^ }", "{a^{b}", "{a^;}", "{a^)}", "{a^,b}", "{a^=1}", "{a^'b'}", "{a^1}", "{1^a}", "{'w'^a}", "{'w'^'w'}",
-                "{(a)^(a)}", "{f(1)^(1)}", "{1^ +1}", "{1+^ 1}");
+        wrong("{a^", "{a^ }", "{a^{b}", "{a^;}", "{a^)}", "{a^,b}", "{a^=1}", "{a^'b'}", "{a^1}", "{1^a}", "{'w'^a}",
+                "{'w'^'w'}", "{(a)^(a)}", "{f(1)^(1)}", "{1^ +1}", "{1+^ 1}");
     }
 
     private static void digits() {
         Check.sentence("1 to 15 digits; digits as far as they go (at the first: more than 15)");
         good("{1}", "{123456789012345}", "{000000000000000}", "{a+123456789012345*1}");
-        wrong("{^1234567890123456}", "{^0000000000000000}", "{a+^1234567890123456}", "{(^1234567890123456", "{f(1,^1234567890123456)}",
-                "{^12345678901234567890}", "{123456789012345^", "{^1234567890123456", "{123456789012345^a}", "{let a=^1234567890123456}",
-                "{-^1234567890123456}");
+        wrong("{^1234567890123456}", "{^0000000000000000}", "{a+^1234567890123456}", "{(^1234567890123456",
+                "{f(1,^1234567890123456)}", "{^12345678901234567890}", "{123456789012345^", "{^1234567890123456",
+                "{123456789012345^a}", "{let a=^1234567890123456}", "{-^1234567890123456}");
     }
 
     private static void quotes() {
@@ -237,12 +237,13 @@ public final class PlaceBoundsTest {
             }
         }
         wrong("{a^ (1)}", "{1^(1)}", "{1+^}", "{1-^}", "{1*^}", "{1+^", "{-^", "{-^}", "{-^+1}", "{-^ 1}", "{^+1}",
-                "{^*1}", "{1+^+1}", "{1+^*1}", "{1*^*1}", "{1*^+1}", "{-^*1}", "{1^/2}", "{1^.5}", "{(^", "{(^}", "{(^)}",
-                "{abcdefgh^ (1)}", "{^abcdefghi(1)}", "{1+^end(1)}", "{let^(1)}");
+                "{^*1}", "{1+^+1}", "{1+^*1}", "{1*^*1}", "{1*^+1}", "{-^*1}", "{1^/2}", "{1^.5}", "{(^", "{(^}",
+                "{(^)}", "{abcdefgh^ (1)}", "{^abcdefghi(1)}", "{1+^end(1)}", "{let^(1)}");
     }
 
     private static void nineDeep() {
-        Check.sentence("Factors are at most eight deep: each ( and each - makes what is in it, or behind it, one deeper; "
+        Check.sentence("Factors are at most eight deep: "
+                + "each ( and each - makes what is in it, or behind it, one deeper; "
                 + "the outermost ones are 1 deep; At a ( or -: what it would make nine deep");
         String[] opening = {"(", "-", "f(", "abcdefgh(1,", "min(1,2+", "(2*", "-(", "(-"};
         for (String open : opening) {
@@ -252,16 +253,15 @@ public final class PlaceBoundsTest {
             String ends = close.repeat(7 / levels);
             good("{" + seven + "1" + ends + "}", "{" + seven + "1*2+a" + ends + "}", "{" + seven + "'w'" + ends + "}",
                     "{1+" + seven + "a" + ends + "*" + seven + "a" + ends + "}");
-            wrong("{" + seven + "^-1" + ends + "}", "{" + seven + "^(1)" + ends + "}", "{" + seven + "g^(1)" + ends + "}",
-                    "{" + seven + "^(", "{" + seven + "^-", "{" + seven + "g^(");
+            wrong("{" + seven + "^-1" + ends + "}", "{" + seven + "^(1)" + ends + "}",
+                    "{" + seven + "g^(1)" + ends + "}", "{" + seven + "^(", "{" + seven + "^-", "{" + seven + "g^(");
         }
         wrong("{(((((((1+^(1)", "{f(f(f(f(f(f(f(1,^-1", "{(((((((1*g^(1)", "{(((((((1-^-1");
         good("{-------1+(1)}", "{((((((-1+(1)))))))}", "{(((((((1-1)))))))}");
         good("{" + "(1)+".repeat(60) + "1}", "{" + "-1-".repeat(60) + "1}", "{1" + "-1".repeat(100) + "}",
-                "{f(" + "f(1),".repeat(60) + "1)}", "{(" + "(1)*".repeat(60) + "1)}",
-                "{-------1-1-1}", "{1--------1}");
-        wrong("{1--------^-1}", "{f(1,------^-1)}",
-                "{let a=-------^-1}", "{if -------^(1)}", "{each t c=-------f^(1)}");
+                "{f(" + "f(1),".repeat(60) + "1)}", "{(" + "(1)*".repeat(60) + "1)}", "{-------1-1-1}", "{1--------1}");
+        wrong("{1--------^-1}", "{f(1,------^-1)}", "{let a=-------^-1}", "{if -------^(1)}",
+                "{each t c=-------f^(1)}");
         Check.sentence("digits, names and words are read before what is behind them is looked at");
         wrong("{-------^1234567890123456}", "{-------^abcdefghi(1)}", "{-------^end(1)}", "{-------^'a;'}");
     }
@@ -269,17 +269,19 @@ public final class PlaceBoundsTest {
     private static void arguments() {
         Check.sentence("Behind an argument: a , or ); behind an EXPR in ( ): a )");
         good("{f(1)}", "{f(1,2)}", "{f(a,'b',(c),-d,g(e))}", "{((1))}");
-        wrong("{f(^)}", "{f(^}", "{f(^", "{f(^,1)}", "{f(1^", "{f(1^}", "{f(1^;2)}", "{f(1^ )}", "{f(1^ ,2)}", "{f(1,^)}", "{f(1,^",
-                "{f(1,^ 2)}", "{f(1,2^", "{f(1,2^}", "{f(1^:2)}", "{f(1^>2)}", "{f(1,^,2)}", "{f(1)^)}", "{f(g(1)^}", "{f(^ 1)}");
-        wrong("{(1^}", "{(1^", "{(1^,2)}", "{(1^ )}", "{(1^:2)}", "{(1)^)}", "{((1)^}", "{(^ 1)}", "{(1+2^}", "{('a'^'b')}");
+        wrong("{f(^)}", "{f(^}", "{f(^", "{f(^,1)}", "{f(1^", "{f(1^}", "{f(1^;2)}", "{f(1^ )}", "{f(1^ ,2)}",
+                "{f(1,^)}", "{f(1,^", "{f(1,^ 2)}", "{f(1,2^", "{f(1,2^}", "{f(1^:2)}", "{f(1^>2)}", "{f(1,^,2)}",
+                "{f(1)^)}", "{f(g(1)^}", "{f(^ 1)}");
+        wrong("{(1^}", "{(1^", "{(1^,2)}", "{(1^ )}", "{(1^:2)}", "{(1)^)}", "{((1)^}", "{(^ 1)}", "{(1+2^}",
+                "{('a'^'b')}");
     }
 
     private static void theEnd() {
         Check.sentence("At the END: a tag or a block that is open");
         good("", "x", "{a}", "{if 1}{end}", "{{", "}", "{{}");
-        wrong("{^", "x{^", "{{{^", "{a}{^", "{a^", "{a:^", "{a>1^", "{if^", "{if ^", "{if 1^", "{if 1}^", "{if 1}x^", "{each t}^",
-                "{each t c=1}{a}^", "{if 1}{else}^", "{if 1}{else}x{{^", "{if 1}{each t}{end}^", SIX + "^", SIX + "{end}".repeat(5) + "^",
-                "{if 1}{end^", "{let a=1^", "{f(1^", "{(1)^", "{-1^", "{abcdefgh^");
+        wrong("{^", "x{^", "{{{^", "{a}{^", "{a^", "{a:^", "{a>1^", "{if^", "{if ^", "{if 1^", "{if 1}^", "{if 1}x^",
+                "{each t}^", "{each t c=1}{a}^", "{if 1}{else}^", "{if 1}{else}x{{^", "{if 1}{each t}{end}^", SIX + "^",
+                SIX + "{end}".repeat(5) + "^", "{if 1}{end^", "{let a=1^", "{f(1^", "{(1)^", "{-1^", "{abcdefgh^");
     }
 
     private static void aboveFiveHundred() {
@@ -289,13 +291,15 @@ public final class PlaceBoundsTest {
         String end = "x".repeat(500) + "^";
         wrong(end + "x", end + "x".repeat(100), end + "{a}", end + "{", end + "?", "{a}" + "x".repeat(497) + "^x",
                 "x".repeat(498) + "{{^x", "{if 1}{end}" + "x".repeat(489) + "^{end}");
-        Check.sentence("reads from the left, up to the size, or 500 if that is less (THE END, also where there is no byte any more)");
+        Check.sentence("reads from the left, up to the size, or 500 if that is less "
+                + "(THE END, also where there is no byte any more)");
         wrong("x".repeat(499) + "{^{", "x".repeat(499) + "{^a}", "x".repeat(498) + "{a^}", "x".repeat(497) + "{ab^}",
-                "{if 1}" + "x".repeat(490) + "{end^}", "{if 1}" + "x".repeat(494) + "^{end}", "{if 1}" + "x".repeat(494) + "^" + "x".repeat(100),
-                "x".repeat(496) + "{123^4567890123456}", "x".repeat(493) + "{abcdef^ghij}", "x".repeat(491) + "{abcdefgh^i}",
-                "x".repeat(493) + "{a:2>2^1}", "x".repeat(497) + "{if^}", "x".repeat(496) + "{end^}", "x".repeat(495) + "{else^}");
-        wrong("x".repeat(490) + "{^abcdefghi" + "x".repeat(60), "{^?" + "x".repeat(598),
-                "^{end}" + "x".repeat(595), "x".repeat(495) + "^{end}x", "{a}".repeat(120) + "x".repeat(139) + "^{{" + "x".repeat(99));
+                "{if 1}" + "x".repeat(490) + "{end^}", "{if 1}" + "x".repeat(494) + "^{end}",
+                "{if 1}" + "x".repeat(494) + "^" + "x".repeat(100), "x".repeat(496) + "{123^4567890123456}",
+                "x".repeat(493) + "{abcdef^ghij}", "x".repeat(491) + "{abcdefgh^i}", "x".repeat(493) + "{a:2>2^1}",
+                "x".repeat(497) + "{if^}", "x".repeat(496) + "{end^}", "x".repeat(495) + "{else^}");
+        wrong("x".repeat(490) + "{^abcdefghi" + "x".repeat(60), "{^?" + "x".repeat(598), "^{end}" + "x".repeat(595),
+                "x".repeat(495) + "^{end}x", "{a}".repeat(120) + "x".repeat(139) + "^{{" + "x".repeat(99));
     }
 
     private static void noTemplateThen() {

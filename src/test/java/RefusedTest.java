@@ -166,13 +166,16 @@ public final class RefusedTest {
         for (int record = 0; record < 4; record++) {
             answers.append(desk.number(0, record, 0)).append(' ').append(desk.number(0, record, 1)).append(' ');
         }
-        answers.append(desk.number(1, 0, 0)).append(' ').append(desk.merge()).append(' ').append(desk.output()).append('\n');
+        answers.append(desk.number(1, 0,
+                0)).append(' ').append(desk.merge()).append(' ').append(desk.output()).append('\n');
         answers.append(desk.merged(" behind")).append(desk.about(3)).append('\n');
         answers.append(desk.merged("{each t}{a},{b};{end}{count(t)}")).append('\n');
         answers.append(desk.merged("{each u}{c};{end}{count(u)}")).append('\n');
         answers.append(desk.record(0, "p;q")).append(' ').append(desk.record(1, "r")).append(' ');
-        answers.append(desk.table("q r")).append(' ').append(desk.table("t a b")).append(' ').append(desk.drop(0, 0)).append('\n');
-        answers.append(desk.merged("{each t}{a},{b};{end}{each u}{c};{end}{let v=1}")).append(' ').append(desk.variable("v"));
+        answers.append(desk.table("q r")).append(' ').append(desk.table("t a b")).append(' ').append(desk.drop(0,
+                0)).append('\n');
+        answers.append(desk.merged("{each t}{a},{b};{end}{each u}{c};{end}{let v=1}"));
+        answers.append(' ').append(desk.variable("v"));
         return answers.toString();
     }
 }

@@ -154,8 +154,8 @@ public final class TableBoundsTest {
     }
 
     private static void recordThrows() {
-        Check.sentence("IndexOutOfBoundsException when there is no such table; IllegalArgumentException when it is none; "
-                + "UnsupportedOperationException when it has 16");
+        Check.sentence("IndexOutOfBoundsException when there is no such table; "
+                + "IllegalArgumentException when it is none; UnsupportedOperationException when it has 16");
         Desk desk = Desk.of("t a", SIXTEEN).with("u a b");
         Check.same("no table -1", desk.record(-1, "1"), Desk.INDEX);
         Check.same("no table 2", desk.record(2, "1"), Desk.INDEX);

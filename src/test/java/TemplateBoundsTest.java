@@ -87,9 +87,11 @@ public final class TemplateBoundsTest {
     }
 
     private static void points() {
-        Check.sentence("{EXPR:P}, P 1 to 4, prints a number with so many digits behind a point (at least one before it)");
-        String[] numbers = {"0", "1", "9", "10", "99", "100", "999", "1000", "9999", "10000", "99999", "100000", "-1", "-9",
-            "-10", "-99", "-100", "-999", "-1000", "-9999", "-10000", "-99999", "999999999999999", "-999999999999999"};
+        Check.sentence("{EXPR:P}, P 1 to 4, prints a number with so many digits behind a point "
+                + "(at least one before it)");
+        String[] numbers = {"0", "1", "9", "10", "99", "100", "999", "1000", "9999", "10000", "99999", "100000", "-1",
+            "-9", "-10", "-99", "-100", "-999", "-1000", "-9999", "-10000", "-99999", "999999999999999",
+            "-999999999999999"};
         for (String number : numbers) {
             for (int points = 1; points <= 4; points++) {
                 String want = new BigDecimal(number).movePointLeft(points).setScale(points).toPlainString();
@@ -103,7 +105,8 @@ public final class TemplateBoundsTest {
     }
 
     private static void widths() {
-        Check.sentence("Behind that may stand >W or <W, W 1 to 20: spaces come before, or behind, until there are W bytes");
+        Check.sentence("Behind that may stand >W or <W, W 1 to 20: "
+                + "spaces come before, or behind, until there are W bytes");
         String[] shown = {"", "a", "abcdefghijkl"};
         for (int width = 1; width <= 20; width++) {
             for (String word : shown) {
@@ -130,14 +133,17 @@ public final class TemplateBoundsTest {
         Check.same("two loops", Desk.of("t a", "1", "2").merged("{each t}{a}{end}{each t}{a}{end}"), "1212");
         Check.same("one within the other", Desk.of("t a", "1", "2").with("u b", "x", "y")
                 .merged("{each t}{each u}{a}{b} {end}{end}"), "1x 1y 2x 2y ");
-        Check.same("the last of four tables", Desk.of("t a").with("u a").with("v a").with("w a", "5").merged("{each w}{a}{end}"), "5");
+        Desk four = Desk.of("t a").with("u a").with("v a").with("w a", "5");
+        Check.same("the last of four tables", four.merged("{each w}{a}{end}"), "5");
     }
 
     private static void eachWhere() {
         Check.sentence("{each T C=EXPR}: for those whose cell in column C is equal to the value");
-        Desk desk = Desk.of("t k v", "1;a", "01;b", "x;c", "-1;d", ";e", "1x;f", "1;g", "0;h", "abcdefghijkl;i", "abcdefghijkm;j");
-        String[][] keys = {{"1", "abg"}, {"'1'", ""}, {"'x'", "c"}, {"-1", "d"}, {"''", "e"}, {"0", "h"}, {"2", ""}, {"' '", ""},
-            {"'1x'", "f"}, {"'X'", ""}, {"2-1", "abg"}, {"'abcdefghijkl'", "i"}, {"'abcdefghijkm'", "j"}, {"'abcdefgh'", ""}};
+        Desk desk = Desk.of("t k v", "1;a", "01;b", "x;c", "-1;d", ";e", "1x;f", "1;g", "0;h", "abcdefghijkl;i",
+                "abcdefghijkm;j");
+        String[][] keys = {{"1", "abg"}, {"'1'", ""}, {"'x'", "c"}, {"-1", "d"}, {"''", "e"}, {"0", "h"}, {"2", ""},
+            {"' '", ""}, {"'1x'", "f"}, {"'X'", ""}, {"2-1", "abg"}, {"'abcdefghijkl'", "i"}, {"'abcdefghijkm'", "j"},
+            {"'abcdefgh'", ""}};
         for (String[] key : keys) {
             Check.same("k=" + key[0], desk.merged("{each t k=" + key[0] + "}{v}{end}"), key[1]);
         }
@@ -155,7 +161,8 @@ public final class TemplateBoundsTest {
     }
 
     private static void ifValues() {
-        Check.sentence("the first part if the value is a number that is not 0, or a word that is not empty; otherwise the second one");
+        Check.sentence("the first part if the value is a number that is not 0, or a word that is not empty; "
+                + "otherwise the second one");
         String[] first = {"1", "-1", "999999999999999", "' '", "'0'", "'abcdefghijkl'", "2-1", "lt(0,1)"};
         String[] second = {"0", "-0", "''", "1-1", "lt(1,0)", "000"};
         for (String value : first) {
@@ -197,15 +204,15 @@ public final class TemplateBoundsTest {
     private static void oneSpace() {
         Check.sentence("One space stands behind each, if, let, and before a column, nowhere else");
         due("{each line no=9}{qty}{end}{if 1}x{end}{let a=1}", "9x");
-        String[][] wrong = {{"{each  line}{end}", "7"}, {"{if  1}{end}", "5"}, {"{let  a=1}", "6"}, {"{each line  no=1}{end}", "12"},
-            {"{each}{end}", "6"}, {"{if}{end}", "4"}, {"{let}", "5"}, {"{ each line}{end}", "2"}, {"{each line }{end}", "12"},
-            {"{each line no =1}{end}", "14"}, {"{each line no= 1}{end}", "15"}, {"{each line no=1 }{end}", "16"}, {"{if 1 }{end}", "6"},
-            {"{let a =1}", "7"}, {"{let a= 1}", "8"}, {"{let a=1 }", "9"}, {"{ 1}", "2"}, {"{1 }", "3"}, {"{1 +1}", "3"}, {"{1+ 1}", "4"},
-            {"{1* 1}", "4"}, {"{- 1}", "3"}, {"{( 1)}", "3"}, {"{(1 )}", "4"}, {"{abs (1)}", "5"}, {"{abs( 1)}", "6"}, {"{abs(1 )}", "7"},
-            {"{min(1 ,2)}", "7"}, {"{min(1, 2)}", "8"}, {"{1 :2}", "3"}, {"{1: 2}", "4"}, {"{1:2 }", "5"}, {"{1:2 >3}", "5"},
-            {"{1> 3}", "4"}, {"{1>3 }", "5"}, {"{if 1}{ end}", "8"}, {"{if 1}{end }", "11"}, {"{if 1}{else }{end}", "12"}};
-        for (String[] pair : wrong) {
-            due(pair[0], "compile " + pair[1]);
+        String[] wrong = {"{each ^ line}{end}", "{if ^ 1}{end}", "{let ^ a=1}", "{each line ^ no=1}{end}",
+            "{each^}{end}", "{if^}{end}", "{let^}", "{^ each line}{end}", "{each line ^}{end}",
+            "{each line no^ =1}{end}", "{each line no=^ 1}{end}", "{each line no=1^ }{end}", "{if 1^ }{end}",
+            "{let a^ =1}", "{let a=^ 1}", "{let a=1^ }", "{^ 1}", "{1^ }", "{1^ +1}", "{1+^ 1}", "{1*^ 1}", "{-^ 1}",
+            "{(^ 1)}", "{(1^ )}", "{abs^ (1)}", "{abs(^ 1)}", "{abs(1^ )}", "{min(1^ ,2)}", "{min(1,^ 2)}", "{1^ :2}",
+            "{1:^ 2}", "{1:2^ }", "{1:2^ >3}", "{1>^ 3}", "{1>3^ }", "{if 1}{^ end}", "{if 1}{end^ }",
+            "{if 1}{else^ }{end}"};
+        for (String marked : wrong) {
+            due(marked.replace("^", ""), "compile " + (marked.indexOf('^') + 1));
         }
         due("{len(' a ')}{' '}", "3 ");
     }
@@ -227,6 +234,7 @@ public final class TemplateBoundsTest {
         due("{2-2+999999999999999+1}", 1000000000000000L);
         due("{1" + "+1".repeat(248) + "}", 249);
         due("{1" + "*1".repeat(248) + "}", 1);
+        due("{" + "1+2-".repeat(124) + "9}", 3 + 123 - 9);
     }
 
     private static void eightDeep() {
@@ -271,6 +279,7 @@ public final class TemplateBoundsTest {
         Check.same("nothing behind the loop", desk.merged("{each t}{a}{end}{a}"), "-10016 1");
         Check.same("nothing before the loop", desk.merged("{a}{each t}{end}"), "-10000 ");
         Check.same("a table's name is no value", desk.merged("{t}"), "-10000 ");
-        Check.same("the same table twice", Desk.of("t a", "1", "2").merged("{each t}{each t}{a}{end}{a} {end}"), "121 122 ");
+        Check.same("the same table twice", Desk.of("t a", "1", "2").merged("{each t}{each t}{a}{end}{a} {end}"),
+                "121 122 ");
     }
 }

@@ -38,7 +38,8 @@ public final class ValueBoundsTest {
                 Check.same("the cells", desk.merged("{each t}{a}|{end}"), fits ? word + "|" + word + "|" : "0|");
             }
             if (b != 39) {
-                Check.same("byte " + b + " in quotes", new Desk().merged("{'w" + c + "'}"), fits ? "w" + c : "compile 2");
+                Check.same("byte " + b + " in quotes", new Desk().merged("{'w" + c + "'}"),
+                        fits ? "w" + c : "compile 2");
                 Check.same("byte " + b + " first in quotes", new Desk().compile("{1+'" + c + "'"), fits ? 7 : 4);
             }
         }
@@ -111,10 +112,10 @@ public final class ValueBoundsTest {
 
     private static void sameAndTrue() {
         Check.sentence("the same number or the same word");
-        String[][] others = {{"1", "'1'"}, {"0", "''"}, {"-1", "'-1'"}, {"'a'", "'b'"}, {"'a'", "'a '"},
-            {"''", "' '"}, {"'abcdefgh'", "'abcdefghi'"}, {"'abcdefghijkl'", "'abcdefghijkm'"},
-            {"'abcdefghijkl'", "'abcdefghijk'"}, {"'abcdefgh'", "'bbcdefgh'"}, {"'A'", "'a'"}, {"1", "-1"},
-            {"999999999999999", "999999999999998"}, {"97", "'a'"}};
+        String[][] others = {{"1", "'1'"}, {"0", "''"}, {"-1", "'-1'"}, {"'a'", "'b'"}, {"'a'", "'a '"}, {"''", "' '"},
+            {"'abcdefgh'", "'abcdefghi'"}, {"'abcdefghijkl'", "'abcdefghijkm'"}, {"'abcdefghijkl'", "'abcdefghijk'"},
+            {"'abcdefgh'", "'bbcdefgh'"}, {"'A'", "'a'"}, {"1", "-1"}, {"999999999999999", "999999999999998"},
+            {"97", "'a'"}};
         for (String[] pair : others) {
             String both = pair[0] + "," + pair[1];
             String turned = pair[1] + "," + pair[0];
