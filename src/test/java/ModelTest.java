@@ -1,4 +1,6 @@
+import java.util.Map;
 import java.util.Random;
+import java.util.TreeMap;
 
 /** All promises: long runs of calls, made up from fixed seeds, answered by the class and by the model. */
 public final class ModelTest {
@@ -15,6 +17,9 @@ public final class ModelTest {
     private static final String[] WORDS = {"", "a", "b", "1", "abcdefgh", "abcdefghi", "abcdefghijkl", "x y", "{"};
     private static final String BYTES = "{}(),'+-*:<>= ;aeinx0129\n\u00ff";
 
+    /** How often each kind of answer came, as a run that meets none of a kind would say nothing about it. */
+    private static final Map<String, Integer> MET = new TreeMap<>();
+
     private final Random random;
     private final Desk desk = new Desk();
     private final Model model = new Model();
@@ -27,7 +32,26 @@ public final class ModelTest {
         for (int seed = 0; seed < RUNS; seed++) {
             new ModelTest(seed).run("run " + seed);
         }
+        enoughMet();
         Check.end();
+    }
+
+    private static void enoughMet() {
+        String[] kinds = {"table +", "table " + Desk.ARGUMENT, "table " + Desk.UNSUPPORTED,
+            "record +", "record " + Desk.INDEX, "record " + Desk.ARGUMENT, "record " + Desk.UNSUPPORTED,
+            "cell +", "cell " + Desk.INDEX, "cell " + Desk.ARGUMENT, "drop +", "drop " + Desk.INDEX,
+            "compile 0", "compile +", "merge +", "merge " + Desk.STATE,
+            "merge -1", "merge -2", "merge -3", "merge -4", "merge -5"};
+        for (String kind : kinds) {
+            Check.same("made-up calls with an answer as " + kind + " are many", MET.getOrDefault(kind, 0) >= 100, true);
+        }
+    }
+
+    private static void meet(String call, String answer) {
+        boolean fault = call.equals("merge") && answer.startsWith("-");
+        boolean plain = answer.startsWith("throws.") || call.equals("compile") && answer.equals("0");
+        String kind = plain ? answer : fault ? "-" + answer.charAt(1) : "+";
+        MET.merge(call + " " + kind, 1, Integer::sum);
     }
 
     private String pick(String[] from) {
@@ -69,7 +93,7 @@ public final class ModelTest {
             got = desk.record(table, text);
             want = model.record(table, text);
         } else if (call.equals("cell")) {
-            text = cellText();
+            text = spoiled(cellText(), 30);
             got = desk.cell(table, record, column, text);
             want = model.cell(table, record, column, text);
         } else if (call.equals("drop")) {
@@ -84,8 +108,11 @@ public final class ModelTest {
             want = model.merge();
         }
         Check.same(run + " " + call + " " + text, got, want);
+        meet(call, want);
         if (call.equals("compile") && want.equals("0")) {
-            Check.same(run + " merge of " + text, desk.merge(), model.merge());
+            String merged = model.merge();
+            Check.same(run + " merge of " + text, desk.merge(), merged);
+            meet("merge", merged);
         }
         return text;
     }
@@ -135,6 +162,9 @@ public final class ModelTest {
     }
 
     private String template() {
+        if (chance(5)) {
+            return quiet();
+        }
         StringBuilder text = new StringBuilder();
         if (chance(70)) {
             for (String name : NAMES) {
@@ -150,6 +180,17 @@ public final class ModelTest {
         text.append("{end}".repeat(chance(95) ? loops : random.nextInt(7)));
         String whole = spoiled(text.toString(), 25);
         return whole.substring(0, Math.min(chance(80) ? 500 : 600, whole.length()));
+    }
+
+    /** Loops that print little, so that they come to their 3001st tag before their 4001st byte. */
+    private String quiet() {
+        int loops = 4 + random.nextInt(3);
+        StringBuilder text = new StringBuilder("{let x=0}");
+        for (int i = 0; i < loops; i++) {
+            text.append("{each ").append(tableName()).append('}').append(chance(20) ? "{let x=x+1}" : "");
+        }
+        text.append("{let x=x+1}").append(chance(50) ? "{if x-3000}{else}!{end}" : "{if lt(x,9)}{x}{end}");
+        return text.append("{end}".repeat(loops)).append("{x}").toString();
     }
 
     private void pieces(StringBuilder text, int level) {
